@@ -22,8 +22,7 @@ public final class FormatDesk {
     private int directivesDone = 0;
 
     private final Directive directive = new Directive();
-    private final Piece piece = new Piece();
-    private final FloatingWriter floatingWriter = new FloatingWriter(piece);
+    private final Writer writer = new Writer();
 
     public FormatDesk() {
     }
@@ -129,8 +128,8 @@ public final class FormatDesk {
                 directive.read(format, at);
                 at = Math.max(at, directive.at);
                 takeStars();
-                writePiece();
-                fits = putOutPiece();
+                writer.write(directive.kind == '%' ? 0 : take(), directive);
+                fits = putOutPiece(writer.piece);
                 directivesDone++;
             } else {
                 fits = putOut(format.letterAt(at));
@@ -165,70 +164,8 @@ public final class FormatDesk {
         return value;
     }
 
-    private void writePiece() {
-        piece.becomeEmpty();
-        switch (directive.kind) {
-            case '%':
-                piece.put('%');
-                break;
-            case 'c':
-                writeLetter(take());
-                break;
-            case 'd':
-            case 'i':
-                writeSigned(take());
-                break;
-            case 'u':
-                writeUnsigned(take(), 10);
-                break;
-            case 'o':
-                writeUnsigned(take(), 8);
-                break;
-            case 'x':
-                writeUnsigned(take(), 16);
-                break;
-            default:
-                floatingWriter.write(take(), directive);
-                break;
-        }
-        if (directive.great) {
-            piece.becomeGreat();
-        }
-    }
-
-    private void writeLetter(long v) {
-        int letter = (int) (v & 127);
-        piece.put(Format.isForeign(letter) ? '?' : letter);
-    }
-
-    private void writeSigned(long v) {
-        piece.putSign(v < 0, directive);
-        // The smallest number stays as it is: without sign these bits are its distance from 0.
-        writeDigits(v < 0 ? -v : v, 10);
-    }
-
-    private void writeUnsigned(long v, int base) {
-        if (base == 16 && directive.hash && v != 0) {
-            piece.putWord("0x");
-        }
-        writeDigits(v, base);
-    }
-
-    private void writeDigits(long unsigned, int base) {
-        if (directive.precision == NONE) {
-            piece.letZerosComeHere();
-        }
-        int needed = Piece.digitsOf(unsigned, base);
-        int digits = Math.max(needed, directive.precision == NONE ? 1 : directive.precision);
-        // With no more digits than needed the first one is not 0, or there is none.
-        if (base == 8 && directive.hash && digits == needed) {
-            digits++;
-        }
-        piece.putWhole(unsigned, base, digits);
-    }
-
     /** Whether the piece, with what fills it up to WIDTH, has room. */
-    private boolean putOutPiece() {
+    private boolean putOutPiece(Piece piece) {
         int missing = Math.max(0, directive.width - piece.size);
         if (outCount + piece.size + missing > MOST_OUT) {
             return false;
@@ -320,7 +257,7 @@ public final class FormatDesk {
         /** The directive's letter, a small one; great tells if it was written as a great one. */
         private int kind;
         private boolean great;
-        /** Where the reading stands: behind it at the last letter, or at the WRONG one. */
+        /** Where the reading stands; at its end: at the directive's letter, or at the WRONG one. */
         private int at;
 
         /** Whether the directive whose % stands at the place percent is not WRONG. */
@@ -398,7 +335,7 @@ public final class FormatDesk {
             return true;
         }
 
-        /** The number of up to three digits, 0 without any; of a number that is too large the reading goes back to its first digit. */
+        /** The number of up to three digits, 0 without any; the reading goes back to the first one if it is too large. */
         private int readDigits(Format format) {
             int first = at;
             int number = 0;
@@ -536,8 +473,8 @@ public final class FormatDesk {
         }
     }
 
-    /** Writes e, f, g and a into a piece. */
-    private static final class FloatingWriter {
+    /** Writes what a directive makes of its argument into a piece. */
+    private static final class Writer {
         private static final int FRACTION_BITS = 52;
         private static final long HIDDEN_BIT = 1L << FRACTION_BITS;
         private static final int ALL_EXPONENT_BITS = 2047;
@@ -545,14 +482,72 @@ public final class FormatDesk {
         private static final int HEXADECIMAL_DIGITS = 13;
         private static final int USUAL_PRECISION = 6;
 
-        private final Piece piece;
+        private final Piece piece = new Piece();
         private final Decimal decimal = new Decimal();
 
-        FloatingWriter(Piece piece) {
-            this.piece = piece;
+        void write(long value, Directive directive) {
+            piece.becomeEmpty();
+            switch (directive.kind) {
+                case '%':
+                    piece.put('%');
+                    break;
+                case 'c':
+                    writeLetter(value);
+                    break;
+                case 'd':
+                case 'i':
+                    writeSigned(value, directive);
+                    break;
+                case 'u':
+                    writeUnsigned(value, 10, directive);
+                    break;
+                case 'o':
+                    writeUnsigned(value, 8, directive);
+                    break;
+                case 'x':
+                    writeUnsigned(value, 16, directive);
+                    break;
+                default:
+                    writeFloating(value, directive);
+                    break;
+            }
+            if (directive.great) {
+                piece.becomeGreat();
+            }
         }
 
-        void write(long bits, Directive directive) {
+        private void writeLetter(long v) {
+            int letter = (int) (v & 127);
+            piece.put(Format.isForeign(letter) ? '?' : letter);
+        }
+
+        private void writeSigned(long v, Directive directive) {
+            piece.putSign(v < 0, directive);
+            // The lowest number is its own opposite: without sign these bits are its distance from 0.
+            writeDigits(v < 0 ? -v : v, 10, directive);
+        }
+
+        private void writeUnsigned(long v, int base, Directive directive) {
+            if (base == 16 && directive.hash && v != 0) {
+                piece.putWord("0x");
+            }
+            writeDigits(v, base, directive);
+        }
+
+        private void writeDigits(long unsigned, int base, Directive directive) {
+            if (directive.precision == NONE) {
+                piece.letZerosComeHere();
+            }
+            int needed = Piece.digitsOf(unsigned, base);
+            int digits = Math.max(needed, directive.precision == NONE ? 1 : directive.precision);
+            // With no more digits than needed the first one is not 0, or there is none.
+            if (base == 8 && directive.hash && digits == needed) {
+                digits++;
+            }
+            piece.putWhole(unsigned, base, digits);
+        }
+
+        private void writeFloating(long bits, Directive directive) {
             int exponentBits = (int) (bits >>> FRACTION_BITS) & ALL_EXPONENT_BITS;
             long fraction = bits & (HIDDEN_BIT - 1);
             piece.putSign(bits < 0, directive);
@@ -775,21 +770,15 @@ public final class FormatDesk {
                 becomeZero();
                 return;
             }
-            boolean up = isRoundedUp(kept);
+            int next = digits[kept];
+            boolean halfway = next == 5 && neededFrom(kept + 1) == 0;
+            boolean up = halfway ? digitAt(kept - 1) % 2 == 1 : next >= 5;
             digitCount = kept;
             if (up) {
                 addOneAtTheEnd();
             } else if (kept == 0) {
                 becomeZero();
             }
-        }
-
-        private boolean isRoundedUp(int kept) {
-            int next = digitAt(kept);
-            if (next != 5) {
-                return next > 5;
-            }
-            return neededFrom(kept + 1) > 0 || digitAt(kept - 1) % 2 == 1;
         }
 
         private void addOneAtTheEnd() {

@@ -1,11 +1,18 @@
+import java.util.Arrays;
+
 /** What the tests share: texts in and out of a FormatDesk, and a count of wrong answers. */
 final class Desk {
     interface Call {
         void make();
     }
 
+    /** An object is promised for 512 calls; a check of the worn one may need some 100. */
+    private static final int MOST_WORN = 400;
+
     private int checked = 0;
     private int failed = 0;
+    private FormatDesk worn = new FormatDesk();
+    private int callsOfWorn = 0;
 
     /** Up to eight letters as one long, the first one highest. */
     static long packed(String letters) {
@@ -35,8 +42,11 @@ final class Desk {
     static String out(FormatDesk desk) {
         StringBuilder out = new StringBuilder();
         int size = desk.count(4);
-        for (int i = 0; i < size; i++) {
-            out.append((char) (desk.letters(i / 8) >>> (56 - 8 * (i % 8)) & 255));
+        for (int k = 0; 8 * k < size; k++) {
+            long eight = desk.letters(k);
+            for (int i = 8 * k; i < size && i < 8 * k + 8; i++) {
+                out.append((char) (eight >>> (56 - 8 * (i % 8)) & 255));
+            }
         }
         return out.toString();
     }
@@ -56,7 +66,25 @@ final class Desk {
     }
 
     void makes(String due, String format, long... arguments) {
-        same("\"" + format + "\" of " + java.util.Arrays.toString(arguments), made(format, arguments), due);
+        String what = "\"" + format + "\" of " + Arrays.toString(arguments);
+        same(what, made(format, arguments), due);
+        same(what + " by an object that has been used", madeByWorn(format, arguments), due);
+    }
+
+    private String madeByWorn(String format, long... arguments) {
+        if (callsOfWorn > MOST_WORN) {
+            worn = new FormatDesk();
+            callsOfWorn = 0;
+        }
+        worn.clear();
+        write(worn, format);
+        for (long argument : arguments) {
+            worn.argument(argument);
+        }
+        worn.run();
+        String out = out(worn);
+        callsOfWorn += 3 + (format.length() + 7) / 8 + arguments.length + (out.length() + 7) / 8;
+        return out;
     }
 
     void makesOfNumber(String due, String format, double argument) {

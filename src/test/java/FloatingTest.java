@@ -52,6 +52,9 @@ public final class FloatingTest {
         test.makesOfNumber("0.E+00", "%#.0E", 0.0);
         test.makesOfNumber("1.e+01", "%#.0e", 9.5);
         test.makesOfNumber("8e+00", "%.0e", 8.5);
+        test.makesOfNumber("6e+02", "%.0e", 650.0);
+        test.makesOfNumber("7e+02", "%.0e", 651.0);
+        test.makesOfNumber("8e+02", "%.0e", 750.0);
         test.makesOfNumber("1e+01", "%.0e", 9.9);
         test.makesOfNumber("1.797693E+308", "%E", LARGEST);
         test.makesOfNumber("4.940656e-324", "%e", SMALLEST);
