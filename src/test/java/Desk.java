@@ -6,11 +6,16 @@ final class Desk {
         void make();
     }
 
-    /** An object is promised for 512 calls; a check of the worn one may need some 100. */
-    private static final int MOST_WORN = 400;
+    interface Checks {
+        void make(Desk test);
+    }
+
+    private static final int MOST_CALLS = 512;
 
     private int checked = 0;
     private int failed = 0;
+    private int checkedBefore = 0;
+    private String sentence = "";
     private FormatDesk worn = new FormatDesk();
     private int callsOfWorn = 0;
 
@@ -31,11 +36,15 @@ final class Desk {
 
     static FormatDesk desk(String format, long... arguments) {
         FormatDesk desk = new FormatDesk();
+        fill(desk, format, arguments);
+        return desk;
+    }
+
+    private static void fill(FormatDesk desk, String format, long... arguments) {
         write(desk, format);
         for (long argument : arguments) {
             desk.argument(argument);
         }
-        return desk;
     }
 
     /** All that was put out, read by letters(). */
@@ -52,39 +61,65 @@ final class Desk {
     }
 
     static String made(String format, long... arguments) {
-        FormatDesk desk = desk(format, arguments);
-        desk.run();
-        return out(desk);
+        return madeBy(new FormatDesk(), format, arguments);
+    }
+
+    /** What run() puts out, or what is thrown on the way. */
+    private static String madeBy(FormatDesk desk, String format, long... arguments) {
+        try {
+            fill(desk, format, arguments);
+            desk.run();
+            return out(desk);
+        } catch (RuntimeException e) {
+            return "throws." + e.getClass().getSimpleName();
+        }
+    }
+
+    /** Makes the checks; an exception that is not due there is one wrong answer, and the next checks are made. */
+    void check(Checks checks) {
+        try {
+            checks.make(this);
+        } catch (RuntimeException e) {
+            failed++;
+            System.out.println("[" + sentence + "] a call threw what is not due:");
+            e.printStackTrace(System.out);
+        }
+    }
+
+    /** The words of the document that the checks behind it are about; there must be some. */
+    void sentence(String words) {
+        if (!sentence.isEmpty() && checked == checkedBefore) {
+            failed++;
+            System.out.println("[" + sentence + "] has no check");
+        }
+        sentence = words;
+        checkedBefore = checked;
     }
 
     void same(String what, Object got, Object due) {
         checked++;
         if (!got.equals(due)) {
             failed++;
-            System.out.println(what + " answered <" + got + ">, due is <" + due + ">");
+            System.out.println("[" + sentence + "] " + what + " answered <" + got + ">, due is <" + due + ">");
         }
     }
 
+    /** Checked on a new object, and on one that has been used; they stay within the calls that are promised. */
     void makes(String due, String format, long... arguments) {
         String what = "\"" + format + "\" of " + Arrays.toString(arguments);
         same(what, made(format, arguments), due);
-        same(what + " by an object that has been used", madeByWorn(format, arguments), due);
+        int calls = 3 + (format.length() + 7) / 8 + arguments.length + (due.length() + 7) / 8;
+        same(what + " by an object that has been used", madeByWorn(calls, format, arguments), due);
     }
 
-    private String madeByWorn(String format, long... arguments) {
-        if (callsOfWorn > MOST_WORN) {
+    private String madeByWorn(int calls, String format, long... arguments) {
+        callsOfWorn += calls;
+        if (callsOfWorn > MOST_CALLS) {
             worn = new FormatDesk();
-            callsOfWorn = 0;
+            callsOfWorn = calls;
         }
         worn.clear();
-        write(worn, format);
-        for (long argument : arguments) {
-            worn.argument(argument);
-        }
-        worn.run();
-        String out = out(worn);
-        callsOfWorn += 3 + (format.length() + 7) / 8 + arguments.length + (out.length() + 7) / 8;
-        return out;
+        return madeBy(worn, format, arguments);
     }
 
     void makesOfNumber(String due, String format, double argument) {
@@ -108,7 +143,15 @@ final class Desk {
         same("wrong() of \"" + format + "\"", desk.wrong(), due);
     }
 
+    /** What count() tells, from what 0 on. */
+    void counts(String when, FormatDesk desk, int... due) {
+        for (int what = 0; what < due.length; what++) {
+            same("count(" + what + ") " + when, desk.count(what), due[what]);
+        }
+    }
+
     void end() {
+        sentence("");
         System.out.println(checked + " checked, " + failed + " not as due");
         if (failed != 0 || checked == 0) {
             System.exit(1);

@@ -8,6 +8,7 @@ import java.util.TreeSet;
 public final class FaceTest {
     public static void main(String[] args) {
         Desk test = new Desk();
+        test.sentence("The public face");
         Class<?> face = FormatDesk.class;
         test.same("modifiers", face.getModifiers() & (Modifier.PUBLIC | Modifier.FINAL), Modifier.PUBLIC | Modifier.FINAL);
         TreeSet<String> seen = new TreeSet<>();
